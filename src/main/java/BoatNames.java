@@ -876,7 +876,6 @@ public final class BoatNames {
 
         void become(Telling other) {
             System.arraycopy(other.hate, 0, hate, 0, PEOPLE * PEOPLE);
-            hates = other.hates;
             System.arraycopy(other.sorts, 0, sorts, 0, BOATS);
             System.arraycopy(other.builders, 0, builders, 0, BOATS);
             System.arraycopy(other.launches, 0, launches, 0, BOATS);
@@ -969,6 +968,10 @@ public final class BoatNames {
         final int[] grudges;
         final int[] strengths;
         final int[] weeksAtSea;
+        /** Where in the hates stands what a boat bears, and where its builder's own one. */
+        final int[] spites;
+        final int[] returns;
+        int boatsLeft;
         int firstWeek;
         int firstBoat;
 
@@ -980,13 +983,17 @@ public final class BoatNames {
             grudges = new int[BOATS];
             strengths = new int[BOATS];
             weeksAtSea = new int[BOATS];
+            spites = new int[BOATS];
+            returns = new int[BOATS];
+            boatsLeft = 0;
             firstWeek = NONE;
             firstBoat = NONE;
         }
 
         void run(Telling told, int lastWeek) {
             begin(told);
-            for (int week = 0; week <= lastWeek; week++) {
+            // Events are for boats at sea alone: when none can be there again, nothing changes.
+            for (int week = 0; week <= lastWeek && boatsLeft > 0; week++) {
                 sail(week);
             }
         }
@@ -999,6 +1006,7 @@ public final class BoatNames {
             Arrays.fill(names, NONE);
             Arrays.fill(grudges, 0);
             Arrays.fill(weeksAtSea, 0);
+            boatsLeft = told.boats;
             firstWeek = NONE;
             firstBoat = NONE;
         }
@@ -1006,7 +1014,11 @@ public final class BoatNames {
         void sail(int week) {
             for (int e = 0; e < telling.events; e++) {
                 if (telling.isEventOf(e, week)) {
-                    meet(telling.kinds[e], telling.eventBoats[e]);
+                    if (telling.kinds[e] == STORM) {
+                        storm();
+                    } else {
+                        settle(telling.kinds[e], telling.eventBoats[e]);
+                    }
                 }
             }
             for (int boat = 0; boat < telling.boats; boat++) {
@@ -1021,18 +1033,6 @@ public final class BoatNames {
             }
         }
 
-        private void meet(int kind, int boat) {
-            if (kind == STORM) {
-                storm();
-            } else if (states[boat] == AT_SEA) {
-                if (kind == SHARE) {
-                    takeShare(boat);
-                } else {
-                    makeUp(boat);
-                }
-            }
-        }
-
         private void storm() {
             for (int boat = 0; boat < telling.boats; boat++) {
                 if (states[boat] == AT_SEA) {
@@ -1042,25 +1042,36 @@ public final class BoatNames {
             }
         }
 
-        private void takeShare(int boat) {
-            int both = pair(names[boat], telling.builders[boat]);
-            grudges[boat] = 0;
-            hate[both] = Math.max(0, hate[both] - 1);
-        }
-
-        private void makeUp(int boat) {
-            int builder = telling.builders[boat];
-            hate[pair(names[boat], builder)] = 0;
-            hate[pair(builder, names[boat])] = 0;
+        private void settle(int kind, int boat) {
+            if (states[boat] != AT_SEA) {
+                return;
+            }
+            int spite = spites[boat];
+            if (kind == SHARE) {
+                grudges[boat] = 0;
+                hate[spite] = Math.max(0, hate[spite] - 1);
+            } else {
+                hate[spite] = 0;
+                hate[returns[boat]] = 0;
+            }
         }
 
         private void launch(int boat) {
-            names[boat] = worstEnemy(telling.builders[boat]);
-            states[boat] = names[boat] == NONE ? ROTS : AT_SEA;
+            int builder = telling.builders[boat];
+            int enemy = worstEnemy(builder);
+            if (enemy == NONE) {
+                states[boat] = ROTS;
+                boatsLeft--;
+            } else {
+                states[boat] = AT_SEA;
+                names[boat] = enemy;
+                spites[boat] = pair(enemy, builder);
+                returns[boat] = pair(builder, enemy);
+            }
         }
 
         private void bear(int boat, int week) {
-            int hatred = hate[pair(names[boat], telling.builders[boat])];
+            int hatred = hate[spites[boat]];
             grudges[boat] += telling.sorts[boat] == SMACK ? hatred / 2 : hatred;
             if (strengths[boat] == 0 || grudges[boat] > 3 * strengths[boat]) {
                 sink(boat, week);
@@ -1070,9 +1081,11 @@ public final class BoatNames {
         }
 
         private void sink(int boat, int week) {
-            int both = pair(telling.builders[boat], names[boat]);
             states[boat] = SUNK;
-            hate[both] = Math.min(MOST_HATE, hate[both] + 1);
+            boatsLeft--;
+            if (hate[returns[boat]] < MOST_HATE) {
+                hate[returns[boat]]++;
+            }
             if (firstWeek == NONE) {
                 firstWeek = week;
                 firstBoat = boat;
@@ -1083,7 +1096,7 @@ public final class BoatNames {
             int worst = NONE;
             int most = 0;
             for (int who = 0; who < PEOPLE; who++) {
-                int hatred = hate[pair(who, person)];
+                int hatred = hate[who * PEOPLE + person];
                 if (hatred > most) {
                     most = hatred;
                     worst = who;

@@ -273,6 +273,9 @@ public final class PromiseTest {
         due("10: as many as are whole", x.read(0), 2);
         due("10: two events", x.count(4), 2);
         due("10: they are as read", x.at(2, 0, 0), 2);
+        BoatNames boats = told("104", "l0a3;l0a3");
+        row(boats, 0, 2, 2, 1, 1);
+        due("10: the boat, too", boats.read(0) + boats.at(23, 0, 2), 5);
         row(x, 1, 1, 0, 23, 7, 3, 0, 0, 0, 0, 0);
         due("10: as long as each may be", x.read(1), 1);
         due("10: behind those told", x.count(4), 3);
@@ -445,6 +448,11 @@ public final class PromiseTest {
         BoatNames y = told("104", "l0c3;l0a9;l0b3;l0b3");
         due("15: a later boat is sunk first", y.first(0), 3);
         due("15: the least one in that week", y.first(1), 2);
+        BoatNames last = told("104", "l0v3");
+        due("15: in the last week", last.first(0), 23);
+        due("16: hated since the last week", last.loved(), 252);
+        due("18: two weeks", last.longs(0), 2);
+        due("17: by the last week", told("014;104", "l1v3").bitter(), 1);
         BoatNames z = told("101", "s0a9");
         due("15: none", z.first(0), NONE);
         due("15: none", z.first(1), NONE);
@@ -563,6 +571,11 @@ public final class PromiseTest {
             due("22: no such one", x.spare(i), BAD);
         }
         spareIs(told("104", "l0a1"), NONE, NONE, NONE);
+        BoatNames pairs = told("101", "l0w2");
+        pairs.event(0, 23, 0);
+        pairs.event(0, 23, 0);
+        pairs.event(0, 23, 0);
+        spareIs(pairs, 2, 0, 1);
         BoatNames y = told("101", "l0w2");
         y.event(0, 23, 0);
         y.event(0, 23, 1);
@@ -736,6 +749,7 @@ public final class PromiseTest {
         due("30: by seed 2", y.decades(2, 8, 0), 2);
         due("30: by seed 3", y.decades(3, 4, 1), 0);
         due("30: the same again", y.decades(1, 4, 0), 1);
+        due("30: to the last week", told("104", "l0v3").decades(1, 0, 0), 1);
         due("30: no boats", told("103", "").decades(5, 8, 0), 0);
         due("30: no boats", told("103", "").decades(5, 8, 1), 0);
         for (int n : new int[] {-1, 9, LEAST, MOST}) {
