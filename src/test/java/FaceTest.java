@@ -5,7 +5,9 @@ import java.lang.reflect.Modifier;
 import java.nio.file.Files;
 import java.nio.file.Path;
 import java.util.Arrays;
+import java.util.HashMap;
 import java.util.HashSet;
+import java.util.Map;
 import java.util.Set;
 import java.util.TreeSet;
 import java.util.regex.Matcher;
@@ -25,6 +27,10 @@ public final class FaceTest {
         "Thread", "currentTimeMillis", "nanoTime", "protected", "volatile", "transient", "native",
     };
 
+    private static final Set<String> LIBRARY = Set.of("max", "min", "bitCount", "arraycopy", "fill");
+    private static final Pattern METHOD_HEAD = Pattern.compile("^(?: {4}| {8})(?:[\\w\\[\\]]+ )+(\\w+)\\([^()]*\\) \\{$");
+    private static final int DEEPEST = 8;
+
     private static int wrong = 0;
 
     public static void main(String[] args) throws Exception {
@@ -34,6 +40,7 @@ public final class FaceTest {
         String source = Files.readString(Path.of("src/main/java/BoatNames.java"));
         words(source);
         methodLengths(source);
+        callDepth(source);
         System.out.println(wrong == 0 ? "the face and the text are as asked" : wrong + " things are not as asked");
         if (wrong != 0) {
             System.exit(1);
@@ -116,6 +123,10 @@ public final class FaceTest {
         while (imports.find()) {
             due(imports.group(1).equals("java.util.Arrays"), "import " + imports.group(1));
         }
+        Matcher used = Pattern.compile("\\b(?:Math|Arrays|System|Integer|Long|String)\\.([a-z]\\w*)").matcher(code);
+        while (used.find()) {
+            due(LIBRARY.contains(used.group(1)), "library: " + used.group());
+        }
         due(source.chars().allMatch(b -> b == '\n' || b >= 32 && b < 127), "plain signs alone");
     }
 
@@ -134,5 +145,45 @@ public final class FaceTest {
                 from = -1;
             }
         }
+    }
+
+    /** Rule 11: calls go eight deep at most, the library's among them; rule 8 is not needed, as nothing calls itself. */
+    private static void callDepth(String source) {
+        String code = source.replaceAll("(?s)/\\*.*?\\*/", " ").replaceAll("//[^\n]*", " ");
+        Map<String, Set<String>> callees = new HashMap<>();
+        String current = null;
+        for (String line : code.split("\n")) {
+            Matcher head = METHOD_HEAD.matcher(line);
+            if (head.matches()) {
+                current = head.group(1);
+                callees.computeIfAbsent(current, name -> new TreeSet<>());
+            } else if (current != null) {
+                Matcher call = Pattern.compile("(?<!new )\\b(\\w+)\\(").matcher(line);
+                while (call.find()) {
+                    callees.get(current).add(call.group(1));
+                }
+            }
+        }
+        due(callees.size() > FACE.length, "methods are found");
+        for (String name : callees.keySet()) {
+            int depth = depth(name, callees, new HashSet<>());
+            due(depth <= DEEPEST, "calls from " + name + " go " + depth + " deep");
+        }
+    }
+
+    private static int depth(String name, Map<String, Set<String>> callees, Set<String> open) {
+        if (!open.add(name)) {
+            due(false, name + " calls itself");
+            return DEEPEST + 1;
+        }
+        int deepest = 0;
+        for (String callee : callees.getOrDefault(name, Set.of())) {
+            boolean isCall = callees.containsKey(callee) || LIBRARY.contains(callee);
+            if (isCall) {
+                deepest = Math.max(deepest, depth(callee, callees, open));
+            }
+        }
+        open.remove(name);
+        return deepest + 1;
     }
 }
